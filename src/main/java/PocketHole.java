@@ -109,7 +109,7 @@ public final class PocketHole {
         }
         Coin changed = coat.row[coin];
         int was = changed.told(what, coat.hole);
-        changed.become(what, v);
+        changed.set(what, v);
         return was;
     }
 
@@ -253,7 +253,7 @@ public final class PocketHole {
             stirs = trial.goPocket();
             int gone = goneInTrial();
             if (gone != 0) {
-                return Integer.numberOfTrailingZeros(gone);
+                return leastOf(gone);
             }
         }
         return finding(NONE);
@@ -836,6 +836,15 @@ public final class PocketHole {
         }
     }
 
+    /** The least coin of a set that has one. */
+    private static int leastOf(int set) {
+        int coin = 0;
+        while (coin < MOST_COINS - 1 && (set >> coin & 1) == 0) {
+            coin++;
+        }
+        return coin;
+    }
+
     private boolean isTooFar(int n) {
         return coat.step + n > LAST_STEP;
     }
@@ -942,7 +951,7 @@ public final class PocketHole {
             moveTo(POCKET);
         }
 
-        void becomeAs(Coin other) {
+        void become(Coin other) {
             kind = other.kind;
             size = other.size;
             weight = other.weight;
@@ -1035,7 +1044,7 @@ public final class PocketHole {
             }
         }
 
-        void become(int what, int v) {
+        void set(int what, int v) {
             switch (what) {
                 case ITS_KIND:
                     kind = v;
@@ -1089,7 +1098,7 @@ public final class PocketHole {
             z = other.z;
             coins = other.coins;
             for (int c = 0; c < coins; c++) {
-                row[c].becomeAs(other.row[c]);
+                row[c].become(other.row[c]);
             }
             System.arraycopy(other.spots, 0, spots, 0, SPOTS);
         }
@@ -1395,7 +1404,7 @@ public final class PocketHole {
             if (v == NOTHING) {
                 return false;
             }
-            coin.become(what, v);
+            coin.set(what, v);
             return true;
         }
 

@@ -19,6 +19,7 @@ final class AdviceTest {
         PocketHole x = Check.of("coin; coin size 1; ticket; coin left");
         check.due("thinner by 1", x.bears(0, 3), 7);
         check.due("not at the hole yet", x.bears(0, 2), 99);
+        check.due("n 1", x.bears(0, 1), 99);
         check.due("n 100", x.bears(0, 100), 7);
         check.due("size 1", x.bears(1, 3), 0);
         check.due("a ticket", x.bears(2, 100), 99);
@@ -99,10 +100,14 @@ final class AdviceTest {
         check.due("one of 0 pence isn't in the least", x.carry(3), 4);
         x.sew();
         check.due("all", x.carry(3), 5);
+        x = Check.of("coin size 11 pence 0; coin size 11 pence 1");
+        check.due("a penny", x.carry(3), 2);
         x = Check.of("coin; coin left");
+        check.due("n 1", x.carry(1), 3);
         check.due("none stays", x.carry(3), 0);
         check.promise(20, "carried");
         check.due("none stays", x.carried(3), 0);
+        check.due("n 1", x.carried(1), 12);
     }
 
     private static void carryWithKeys() {
@@ -162,6 +167,7 @@ final class AdviceTest {
         x.put(0, 3);
         check.due("of those in the POCKET", x.worst(11), 1);
         check.due("nothing changed", x.lie(0), 6);
+        check.due("n 1", x.worst(1), 1);
         check.due("n 0", x.worst(0), Check.BEYOND);
         check.due("n 101", x.worst(101), Check.BEYOND);
         x.put(1, 3);
@@ -184,6 +190,7 @@ final class AdviceTest {
         check.promise(23, "hem");
         PocketHole x = Check.of("coin; coin; gap 8 at 3");
         check.due("none is lost", x.hem(3), 0);
+        check.due("n 1", x.hem(1), 0);
         check.due("AT 0 loses one", x.hem(4), 1);
         check.due("AT 1, too", x.hem(5), 2);
         check.due("AT 6, too", x.hem(10), 7);

@@ -7,6 +7,7 @@ final class LackTest {
         size();
         began();
         boy();
+        boyOfOneHole();
         late();
         lining();
         back();
@@ -30,6 +31,7 @@ final class LackTest {
         check.due("1 without 0", x.fits(2, 3), 0);
         check.due("one in LEFT isn't GONE", x.fits(9, 3), 0);
         check.due("none by 2 steps", x.fits(0, 2), 100);
+        check.due("none by 1 step", x.fits(0, 1), 100);
         check.due("n 60", x.fits(1, 60), 12);
         check.due("HOLE stays", x.now(1), 10);
         check.due("n 0", x.fits(1, 0), Check.BEYOND);
@@ -56,6 +58,7 @@ final class LackTest {
         check.due("all", x.size(7, 60), 80);
         check.due("1 without 0", x.size(2, 3), Check.NONE);
         check.due("0 by 2 steps", x.size(1, 2), Check.NONE);
+        check.due("none by 1 step", x.size(0, 1), 0);
         check.due("n 0", x.size(1, 0), Check.BEYOND);
         check.due("n 61", x.size(1, 61), Check.BEYOND);
         check.due("bits of none", x.size(16, 3), Check.BEYOND);
@@ -98,8 +101,22 @@ final class LackTest {
         check.due("n 0", x.boy(0, 0), Check.BEYOND);
         check.due("n 61", x.boy(0, 61), Check.BEYOND);
         check.due("n 60", x.boy(0, 60), 1);
+        check.due("n 1", x.boy(0, 1), 1);
         check.due("bits of none", x.boy(16, 3), Check.BEYOND);
         check.due("bits of none", x.boy(-1, 3), Check.BEYOND);
+    }
+
+    private static void boyOfOneHole() {
+        check.promise(31, "boy, one hole alone");
+        PocketHole x = Check.of("coin size 1");
+        check.due("none with HOLE 0", x.boy(0, 3), 1);
+        check.due("fits", x.fits(0, 3), 1);
+        x = Check.of("coin size 39; coin size 40; coin size 40");
+        check.due("0 alone with HOLE 39, then 40 by what 0 wears", x.boy(1, 3), 2);
+        check.due("fits", x.fits(1, 3), 0);
+        x = Check.of("coin size 40; wrapped size 20");
+        check.due("1 goes ahead of 0 by nothing", x.fits(2, 3), 0);
+        check.due("both", x.boy(3, 3), 1);
     }
 
     private static void late() {

@@ -47,6 +47,10 @@ final class StepsTest {
         check.due("CELL", x.of(1, 6), 7);
         check.due("STEP", x.now(0), 111);
 
+        x = Check.of("coin");
+        x.change(0, 6, 5);
+        x.steps(3);
+        check.due("it comes to CELL 0", x.of(0, 6), 0);
         x = Check.of("coin; coin; coin; gap 8 at 7");
         check.due("two of three fall", x.steps(100), 2);
         x = Check.of("coin; coin; gap 7 at 7");
@@ -274,6 +278,16 @@ final class StepsTest {
         x.steps(1);
         x.rule(0, 10);
         check.due("at STEP 1 + 99, that is not yet", x.when(0), Check.NONE);
+        // It goes at STEP 101, as the 102nd step from the begin.
+        x = Check.of("key size 35; hole 10");
+        x.steps(1);
+        check.due("behind 101", x.when(0), Check.NONE);
+        check.due("behind 101", x.first(), Check.NONE);
+        check.due("behind 101", x.ahead(100, 0), 0);
+        x.steps(1);
+        check.due("behind 100", x.when(0), 100);
+        check.due("behind 100", x.first(), 0);
+        check.due("behind 100", x.ahead(100, 0), 1);
         x = new PocketHole();
         x.coin(6);
         Check.stepTo(x, 9899);
@@ -341,6 +355,11 @@ final class StepsTest {
         x.put(0, 2);
         x.put(1, 1);
         check.due("none is in the POCKET", x.first(), Check.NONE);
+        x = new PocketHole();
+        for (int c = 0; c < 10; c++) {
+            x.coin(c < 9 ? 6 : 0);
+        }
+        check.due("the last of ten", x.first(), 9);
     }
 
     private static void cell() {

@@ -133,6 +133,11 @@ final class TapeTest {
         fault("coins", 0);
         fault("keys", 0);
         fault("coi", 0);
+        fault("join", 0);
+        fault("pole 3", 0);
+        fault("map 3 at 4", 0);
+        fault("gap 3 it 4", 6);
+        fault("coin sizes 4", 5);
         fault("Coin", 0);
         fault("coin\tleft", 4);
         fault("coin, coin", 4);

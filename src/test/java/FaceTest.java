@@ -72,10 +72,14 @@ final class FaceTest {
         List<Constructor<?>> constructors = new ArrayList<>(List.of(PocketHole.class.getDeclaredConstructors()));
         holds(constructors.size() == 1 && constructors.get(0).getParameterCount() == 0, "one constructor");
         fields(PocketHole.class);
+        parameters(PocketHole.class);
+        holds(PocketHole.class.getDeclaredClasses().length < 12, "the file has some twelve classes at most");
         for (Class<?> inside : PocketHole.class.getDeclaredClasses()) {
             holds(Modifier.isStatic(inside.getModifiers()), inside + " is static");
             holds(Modifier.isPrivate(inside.getModifiers()), inside + " is private");
             fields(inside);
+            parameters(inside);
+            holds(inside.getDeclaredClasses().length == 0, inside + " has no class inside");
             for (Method method : inside.getDeclaredMethods()) {
                 holds(!names.contains(method.getName()), method + " bears no name of the face");
             }
@@ -97,6 +101,12 @@ final class FaceTest {
             }
         }
         holds(many <= 20, owner + " has some twenty fields at most");
+    }
+
+    private static void parameters(Class<?> owner) {
+        for (Method method : owner.getDeclaredMethods()) {
+            holds(method.getParameterCount() <= 7, method + " takes seven parameters at most");
+        }
     }
 
     private static void source() throws IOException {
